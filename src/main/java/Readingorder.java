@@ -14,7 +14,7 @@ public final class Readingorder {
     private final Reading[] readings = new Reading[PAGES];
     /** A reading that is looked at and then thrown away, so that no call makes one. */
     private final Reading trial = new Reading();
-    private final int[] setsAside = new int[MOST_BOXES];
+    private final Pile aside = new Pile();
     private final Approval[] given = new Approval[MOST_APPROVALS];
     private int givenCount = 0;
 
@@ -141,7 +141,8 @@ public final class Readingorder {
             Box from = madeBox(reading.at(place - 1));
             Box to = madeBox(reading.at(place));
             if (from != null && to != null) {
-                far += Math.abs(to.middleAcross() - from.middleAcross()) + Math.abs(to.middleDown() - from.middleDown());
+                far += Math.abs(to.middleAcross() - from.middleAcross());
+                far += Math.abs(to.middleDown() - from.middleDown());
             }
         }
         return far;
@@ -273,36 +274,35 @@ public final class Readingorder {
         readSet(boxesThatFollowNone(page), into, 0);
     }
 
-    /** Each cut leaves less on either side, so that the depth stays below the number of boxes. */
+    /** Each cut leaves fewer boxes on either side, so that the depth stays below the number of boxes. */
     private void readSet(int set, Reading into, int depth) {
         int first = depth < MOST_BOXES ? cutOff(set) : 0;
         if (first == 0) {
             readUncut(set, into);
-            return;
+        } else {
+            readParts(first, set & ~first, into, depth + 1);
         }
-        readSet(first, into, depth + 1);
-        readSet(set & ~first, into, depth + 1);
+    }
+
+    private void readParts(int first, int then, Reading into, int depth) {
+        readSet(first, into, depth);
+        readSet(then, into, depth);
     }
 
     private void readWithSetsAside(int page, Reading into) {
         into.length = 0;
-        int aside = 0;
-        int set = boxesThatFollowNone(page);
-        // A page of n boxes has at most n sets that are not cut, and n - 1 that are.
-        for (int step = 0; step < 2 * MOST_BOXES; step++) {
+        aside.height = 0;
+        aside.put(boxesThatFollowNone(page));
+        // Of n boxes there are at most n sets that are not cut, and n - 1 that are.
+        for (int step = 0; step < 2 * MOST_BOXES && aside.height > 0; step++) {
+            int set = aside.take();
             int first = cutOff(set);
-            if (first != 0 && aside < setsAside.length) {
-                setsAside[aside] = set & ~first;
-                aside++;
-                set = first;
-                continue;
+            if (first == 0) {
+                readUncut(set, into);
+            } else {
+                aside.put(set & ~first);
+                aside.put(first);
             }
-            readUncut(set, into);
-            aside--;
-            if (aside < 0 || aside >= setsAside.length) {
-                return;
-            }
-            set = setsAside[aside];
         }
     }
 
@@ -319,48 +319,39 @@ public final class Readingorder {
 
     /** The part of a set that its cut lets be read first; 0 if it can be cut in neither way. */
     private int cutOff(int set) {
-        int upper = aheadOfCut(set, true);
-        return upper != 0 ? upper : aheadOfCut(set, false);
-    }
-
-    private int aheadOfCut(int set, boolean across) {
-        int cut = leastEnd(set, across);
-        for (int pass = 0; pass < MOST_BOXES; pass++) {
-            int further = furthestEndOver(set, cut, across);
-            if (further == cut) {
-                break;
-            }
-            cut = further;
+        int upper = endedBy(leastCut(set, true), set, true);
+        if (upper != set) {
+            return upper;
         }
-        int ahead = endedBy(set, cut, across);
-        return ahead == set ? 0 : ahead;
+        int left = endedBy(leastCut(set, false), set, false);
+        return left != set ? left : 0;
     }
 
-    /** No cut lies nearer than this: something must be ahead of it. */
-    private int leastEnd(int set, boolean across) {
-        int least = PAGE_WIDTH + PAGE_HEIGHT;
+    /**
+     * The least cut that has a box ahead of it and goes through none. It can't lie nearer than the least end
+     * of a box; from there it is put further as long as it goes through one. All boxes may end by it.
+     */
+    private int leastCut(int set, boolean across) {
+        int cut = across ? PAGE_HEIGHT : PAGE_WIDTH;
         for (int number = 0; number < madeCount; number++) {
             Box box = boxOfSet(set, number);
-            if (box != null) {
-                least = Math.min(least, box.end(across));
+            cut = box != null ? Math.min(cut, box.end(across)) : cut;
+        }
+        boolean moved = true;
+        for (int pass = 0; pass < MOST_BOXES && moved; pass++) {
+            moved = false;
+            for (int number = 0; number < madeCount; number++) {
+                Box box = boxOfSet(set, number);
+                if (box != null && box.begin(across) < cut && box.end(across) > cut) {
+                    cut = box.end(across);
+                    moved = true;
+                }
             }
         }
-        return least;
+        return cut;
     }
 
-    /** Where the cut must lie at the least, because a box that begins ahead of it would be cut through. */
-    private int furthestEndOver(int set, int cut, boolean across) {
-        int further = cut;
-        for (int number = 0; number < madeCount; number++) {
-            Box box = boxOfSet(set, number);
-            if (box != null && box.begin(across) < cut) {
-                further = Math.max(further, box.end(across));
-            }
-        }
-        return further;
-    }
-
-    private int endedBy(int set, int cut, boolean across) {
+    private int endedBy(int cut, int set, boolean across) {
         int ended = 0;
         for (int number = 0; number < madeCount; number++) {
             Box box = boxOfSet(set, number);
@@ -397,7 +388,8 @@ public final class Readingorder {
     }
 
     private Box boxOfSet(int set, int number) {
-        return (set >> number & 1) != 0 ? madeBox(number) : null;
+        boolean within = number >= 0 && number < made.length && (set >> number & 1) != 0;
+        return within ? made[number] : null;
     }
 
     // The checks.
@@ -510,7 +502,7 @@ public final class Readingorder {
         }
 
         int end(boolean across) {
-            return across ? bottom() : left + width;
+            return across ? top + height : left + width;
         }
 
         int middleAcross() {
@@ -610,6 +602,28 @@ public final class Readingorder {
             for (int place = 0; place < other.length; place++) {
                 add(other.at(place));
             }
+        }
+    }
+
+    /** Sets that are still to be cut, one upon the other. No two of them share a box, so that all find room. */
+    private static final class Pile {
+        final int[] sets = new int[MOST_BOXES];
+        int height = 0;
+
+        void put(int set) {
+            if (height >= 0 && height < sets.length) {
+                sets[height] = set;
+                height++;
+            }
+        }
+
+        int take() {
+            int top = height - 1;
+            if (top < 0 || top >= sets.length) {
+                return 0;
+            }
+            height = top;
+            return sets[top];
         }
     }
 
