@@ -17,6 +17,7 @@ public final class ApprovalsTest {
         standsRefuses();
         approversAreBits();
         breaksTellsAndChangesNothing();
+        breaksLooksAtBothEdges();
         breaksRefuses();
         due.end();
     }
@@ -144,6 +145,21 @@ public final class ApprovalsTest {
         x.approve(0, 1);
         x.tie(1, 0);
         due.is("a box that follows may go anywhere", 0, x.breaks(0, 0, 0));
+    }
+
+    private static void breaksLooksAtBothEdges() {
+        Readingorder x = new Readingorder();
+        x.box(1, 3, 5, 10, 20, 0);
+        x.box(1, 20, 10, 10, 20, 0);
+        x.approve(4, 1);
+        String before = Look.at(x);
+        due.is("right of the other one", 1, x.breaks(0, 30, 5));
+        due.is("below the other one", 1, x.breaks(0, 3, 30));
+        due.is("left, but below", 0, x.breaks(1, 0, 25));
+        due.is("over one another, and further up", 1, x.breaks(1, 1, 0));
+        due.is("still left", 0, x.breaks(0, 7, 5));
+        due.are("both edges are as they were", before, Look.at(x));
+        due.is("right of the other one", 1, x.move(0, 30, 5));
     }
 
     private static void breaksRefuses() {

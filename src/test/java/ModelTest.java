@@ -4,7 +4,7 @@ import java.util.Random;
 public final class ModelTest {
 
     private static final Due due = new Due("ModelTest");
-    private static final int RUNS = 1500;
+    private static final int RUNS = 1000;
     private static final int CALLS = 512;
     private static final int[] STRANGE = {
         -1, -2, 5, 6, 7, 9, 20, 24, 60, 61, 80, 81, Integer.MAX_VALUE, Integer.MAX_VALUE - 1, Integer.MIN_VALUE};
@@ -59,7 +59,9 @@ public final class ModelTest {
             int l = nearby(box, 1, 3, left, 60);
             int t = nearby(box, 2, 4, top, 80);
             same(run, "breaks", () -> x.breaks(box, l, t), () -> model.breaks(box, l, t));
-            same(run, "move", () -> x.move(box, l, t), () -> model.move(box, l, t));
+            if (random.nextInt(3) != 0) {
+                same(run, "move", () -> x.move(box, l, t), () -> model.move(box, l, t));
+            }
         } else if (which < 32) {
             int width = size();
             int height = size();

@@ -23,6 +23,7 @@ public final class OrderTest {
         whatCannotBeCutGoesByEdges();
         tiedBoxesAreNotCut();
         manyCutsLieInOneAnother();
+        manyBoxesLieOneUponTheOther();
         orderAnswersPlaces();
         placeOfAnswersPlaces();
         boxesAreCounted();
@@ -72,6 +73,8 @@ public final class OrderTest {
                 new int[] {0, 30, 60, 10}, new int[] {0, 12, 60, 10}, new int[] {0, 2, 10, 8}, new int[] {20, 0, 10, 9});
         orderIs("the least distance", "2 1 0",
                 new int[] {30, 0, 10, 30}, new int[] {12, 0, 10, 20}, new int[] {0, 5, 10, 20});
+        orderIs("down at the bottom", "1 0 2",
+                new int[] {30, 60, 10, 10}, new int[] {0, 61, 10, 9}, new int[] {0, 70, 60, 10});
         orderIs("a cut that grows over what it would cut through", "0 1 2 3",
                 new int[] {0, 0, 10, 10}, new int[] {0, 5, 20, 10}, new int[] {0, 12, 30, 10}, new int[] {0, 22, 10, 10});
     }
@@ -87,6 +90,9 @@ public final class OrderTest {
     private static void whatCannotBeCutGoesByEdges() {
         orderIs("by top edges", "1 2 0", new int[] {10, 20, 40, 40}, new int[] {12, 2, 40, 40}, new int[] {14, 10, 40, 40});
         orderIs("then by left edges", "2 0 1", new int[] {10, 5, 20, 20}, new int[] {12, 5, 20, 20}, new int[] {9, 5, 20, 20});
+        orderIs("by left edges, not by top ones", "1 0", new int[] {12, 9, 20, 20}, new int[] {9, 9, 20, 20});
+        orderIs("by left edges, left ones alike to top ones", "1 0 2",
+                new int[] {12, 12, 20, 20}, new int[] {5, 12, 20, 20}, new int[] {13, 12, 20, 20});
         orderIs("then by numbers", "0 1 2", new int[] {5, 5, 9, 9}, new int[] {5, 5, 20, 20}, new int[] {5, 5, 1, 1});
         // Round a windmill no straight cut goes.
         orderIs("a windmill", "0 1 3 4 2", new int[] {0, 0, 40, 20}, new int[] {40, 0, 20, 60},
@@ -130,6 +136,33 @@ public final class OrderTest {
         }
         due.are("a frame in a frame", want.toString(), Look.reading(y, 1));
         due.are("a frame in a frame, anew", want.toString(), Look.readingAnew(y, 1));
+        Readingorder z = new Readingorder();
+        for (int n = 0; n < 24; n++) {
+            z.box(1, 2 * n, 23 - n, 2, 50, TEXT);
+        }
+        due.are("24 columns, each begins above the one left of it", want.toString(), Look.reading(z, 1));
+        due.are("24 columns, anew", want.toString(), Look.readingAnew(z, 1));
+    }
+
+    private static void manyBoxesLieOneUponTheOther() {
+        Readingorder x = new Readingorder();
+        StringBuilder want = new StringBuilder();
+        for (int n = 0; n < 24; n++) {
+            x.box(4, 10, 10, 24 - n, 24 - n, TEXT);
+            want.append(n == 0 ? "" : " ").append(n);
+        }
+        due.are("24 at the same place", want.toString(), Look.reading(x, 4));
+        due.are("24 at the same place, anew", want.toString(), Look.readingAnew(x, 4));
+        due.is("all of them have a fault", 24, x.faulty(4));
+        Readingorder y = new Readingorder();
+        want.setLength(0);
+        // Each one reaches over the next one's edge, so that no cut ends before the last one.
+        for (int n = 0; n < 24; n++) {
+            y.box(4, 2 * (23 - n), 3 * (23 - n), 3, 4, TEXT);
+            want.append(n == 0 ? "" : " ").append(23 - n);
+        }
+        due.are("a stair of 24", want.toString(), Look.reading(y, 4));
+        due.are("a stair of 24, anew", want.toString(), Look.readingAnew(y, 4));
     }
 
     private static void orderAnswersPlaces() {
