@@ -23,8 +23,8 @@ public final class ApprovalsTest {
     }
 
     /** On page 1, one above the other: 0 and 1; on page 2 the box 2. */
-    private static Readingorder pages() {
-        Readingorder x = new Readingorder();
+    private static Run pages() {
+        Run x = new Run();
         x.box(1, 0, 0, 20, 20, 0);
         x.box(1, 0, 40, 20, 20, 0);
         x.box(2, 0, 0, 20, 20, 0);
@@ -32,7 +32,7 @@ public final class ApprovalsTest {
     }
 
     private static void approveNumbers() {
-        Readingorder x = pages();
+        Run x = pages();
         due.is("approve", 0, x.approve(0, 1));
         due.is("approve", 1, x.approve(5, 2));
         due.is("the same once more", 2, x.approve(0, 1));
@@ -42,37 +42,37 @@ public final class ApprovalsTest {
     }
 
     private static void approveRefuses() {
-        Readingorder x = pages();
+        Run x = pages();
         x.box(3, 0, 0, 1, 1, 0);
         x.remove(3);
         x.approve(1, 1);
         for (int person : new int[] {-1, 6, MIN, MAX}) {
-            due.fails("person " + person, INDEX, x, () -> x.approve(person, 1));
-            due.fails("person ahead of an empty page", INDEX, x, () -> x.approve(person, 0));
+            due.fails("person " + person, INDEX, x, r -> r.approve(person, 1));
+            due.fails("person ahead of an empty page", INDEX, x, r -> r.approve(person, 0));
         }
         for (int page : new int[] {-1, 5, MIN, MAX}) {
-            due.fails("page " + page, INDEX, x, () -> x.approve(0, page));
+            due.fails("page " + page, INDEX, x, r -> r.approve(0, page));
         }
-        due.fails("a page without boxes", STATE, x, () -> x.approve(0, 0));
-        due.fails("a page whose box is gone", STATE, x, () -> x.approve(0, 3));
+        due.fails("a page without boxes", STATE, x, r -> r.approve(0, 0));
+        due.fails("a page whose box is gone", STATE, x, r -> r.approve(0, 3));
         due.is("the next number", 1, x.approve(1, 1));
     }
 
     private static void approveRefusesTheTwentyFirst() {
-        Readingorder x = pages();
+        Run x = pages();
         for (int number = 0; number < 20; number++) {
             due.is("approve", number, x.approve(number % 6, 1 + number % 2));
         }
-        due.fails("the 21st", STATE, x, () -> x.approve(0, 1));
-        due.fails("person ahead of the number", INDEX, x, () -> x.approve(6, 1));
-        due.fails("page ahead of the number", INDEX, x, () -> x.approve(0, 5));
+        due.fails("the 21st", STATE, x, r -> r.approve(0, 1));
+        due.fails("person ahead of the number", INDEX, x, r -> r.approve(6, 1));
+        due.fails("page ahead of the number", INDEX, x, r -> r.approve(0, 5));
         due.is("all of a page fall", 10, x.remove(0));
-        due.fails("one that fell keeps its number", STATE, x, () -> x.approve(0, 1));
+        due.fails("one that fell keeps its number", STATE, x, r -> r.approve(0, 1));
         due.is("the others stand", true, x.stands(19));
     }
 
     private static void standsUntilTheOrderIsAnother() {
-        Readingorder x = pages();
+        Run x = pages();
         x.approve(2, 1);
         x.move(0, 40, 10);
         x.resize(1, 40, 40);
@@ -89,7 +89,7 @@ public final class ApprovalsTest {
     }
 
     private static void standsNeverAgain() {
-        Readingorder x = pages();
+        Run x = pages();
         x.approve(2, 1);
         x.move(0, 0, 60);
         x.move(0, 0, 0);
@@ -101,15 +101,15 @@ public final class ApprovalsTest {
     }
 
     private static void standsRefuses() {
-        Readingorder x = pages();
+        Run x = pages();
         x.approve(2, 1);
         for (int wrong : new int[] {-1, 1, 19, 20, MIN, MAX}) {
-            due.fails("stands(" + wrong + ")", INDEX, x, () -> x.stands(wrong) ? 1 : 0);
+            due.fails("stands(" + wrong + ")", INDEX, x, r -> r.stands(wrong) ? 1 : 0);
         }
     }
 
     private static void approversAreBits() {
-        Readingorder x = pages();
+        Run x = pages();
         for (int person = 0; person < 6; person += 2) {
             x.approve(person, 1);
         }
@@ -124,12 +124,12 @@ public final class ApprovalsTest {
         x.approve(1, 1);
         due.is("person 1", 2, x.approvers(1));
         for (int wrong : new int[] {-1, 5, MIN, MAX}) {
-            due.fails("approvers(" + wrong + ")", INDEX, x, () -> x.approvers(wrong));
+            due.fails("approvers(" + wrong + ")", INDEX, x, r -> r.approvers(wrong));
         }
     }
 
     private static void breaksTellsAndChangesNothing() {
-        Readingorder x = pages();
+        Run x = pages();
         x.approve(2, 1);
         x.approve(3, 1);
         x.approve(3, 2);
@@ -148,7 +148,7 @@ public final class ApprovalsTest {
     }
 
     private static void breaksLooksAtBothEdges() {
-        Readingorder x = new Readingorder();
+        Run x = new Run();
         x.box(1, 3, 5, 10, 20, 0);
         x.box(1, 20, 10, 10, 20, 0);
         x.approve(4, 1);
@@ -163,16 +163,16 @@ public final class ApprovalsTest {
     }
 
     private static void breaksRefuses() {
-        Readingorder x = pages();
+        Run x = pages();
         x.approve(2, 1);
         x.remove(2);
         for (int box : new int[] {-1, 2, 3, 24, MIN, MAX}) {
-            due.fails("box " + box, INDEX, x, () -> x.breaks(box, 0, 0));
-            due.fails("box ahead of place", INDEX, x, () -> x.breaks(box, -1, 0));
+            due.fails("box " + box, INDEX, x, r -> r.breaks(box, 0, 0));
+            due.fails("box ahead of place", INDEX, x, r -> r.breaks(box, -1, 0));
         }
         int[][] wrong = {{-1, 0}, {0, -1}, {41, 0}, {0, 61}, {MAX, 0}, {0, MAX}, {MIN, 0}, {0, MIN}};
         for (int[] w : wrong) {
-            due.fails("breaks(0, " + w[0] + ", " + w[1] + ")", ARGUMENT, x, () -> x.breaks(0, w[0], w[1]));
+            due.fails("breaks(0, " + w[0] + ", " + w[1] + ")", ARGUMENT, x, r -> r.breaks(0, w[0], w[1]));
         }
     }
 }

@@ -32,15 +32,15 @@ public final class BoxesTest {
         due.end();
     }
 
-    private static void are(String what, Readingorder x, int box, int... want) {
+    private static void are(String what, Run x, int box, int... want) {
         for (int k = 0; k < want.length; k++) {
             due.is(what + ": about(" + box + ", " + k + ")", want[k], x.about(box, k));
         }
     }
 
     /** One above the other on page 1: 0, 1, 2, each 10 high and 10 apart. */
-    private static Readingorder column() {
-        Readingorder x = new Readingorder();
+    private static Run column() {
+        Run x = new Run();
         x.box(1, 10, 0, 20, 10, 0);
         x.box(1, 10, 20, 20, 10, 0);
         x.box(1, 10, 40, 20, 10, 0);
@@ -48,7 +48,7 @@ public final class BoxesTest {
     }
 
     private static void boxIsPut() {
-        Readingorder x = new Readingorder();
+        Run x = new Run();
         due.is("the first number", 0, x.box(2, 3, 4, 5, 6, 1));
         due.is("the next number, on another page", 1, x.box(0, 7, 8, 9, 10, 6));
         are("box", x, 0, 2, 3, 4, 5, 6, 1, -1, -1, 0);
@@ -62,7 +62,7 @@ public final class BoxesTest {
     }
 
     private static void boxTouchesTheEdgesOfThePage() {
-        Readingorder x = new Readingorder();
+        Run x = new Run();
         due.is("the whole page", 0, x.box(0, 0, 0, 60, 80, 0));
         due.is("the last corner", 1, x.box(4, 59, 79, 1, 1, 0));
         due.is("down to the bottom", 2, x.box(4, 0, 40, 1, 40, 0));
@@ -70,10 +70,10 @@ public final class BoxesTest {
     }
 
     private static void boxRefusesWhatIsNotWithinThePage() {
-        Readingorder x = new Readingorder();
+        Run x = new Run();
         x.box(0, 0, 0, 1, 1, 0);
         for (int page : new int[] {-1, 5, MIN, MAX}) {
-            due.fails("page " + page, INDEX, x, () -> x.box(page, 0, 0, 1, 1, 0));
+            due.fails("page " + page, INDEX, x, r -> r.box(page, 0, 0, 1, 1, 0));
         }
         int[][] wrong = {
             {-1, 0, 1, 1, 0}, {0, -1, 1, 1, 0}, {0, 0, 0, 1, 0}, {0, 0, 1, 0, 0}, {0, 0, -1, 1, 0}, {0, 0, 1, -1, 0},
@@ -84,32 +84,32 @@ public final class BoxesTest {
             {-5, 0, 10, 1, 0}, {0, -5, 1, 10, 0}, {61, 0, 1, 1, 0}, {0, 81, 1, 1, 0}, {60, 0, 0, 1, 0}, {0, 80, 1, 0, 0},
         };
         for (int[] w : wrong) {
-            due.fails("box " + java.util.Arrays.toString(w), ARGUMENT, x, () -> x.box(0, w[0], w[1], w[2], w[3], w[4]));
+            due.fails("box " + java.util.Arrays.toString(w), ARGUMENT, x, r -> r.box(0, w[0], w[1], w[2], w[3], w[4]));
         }
     }
 
     private static void boxRefusesTheTwentyFifth() {
-        Readingorder x = new Readingorder();
+        Run x = new Run();
         for (int number = 0; number < 24; number++) {
             due.is("box", number, x.box(number % 5, 0, 0, 1, 1, 0));
         }
-        due.fails("the 25th box", STATE, x, () -> x.box(0, 0, 0, 1, 1, 0));
+        due.fails("the 25th box", STATE, x, r -> r.box(0, 0, 0, 1, 1, 0));
         x.remove(3);
-        due.fails("a box that is gone keeps its number", STATE, x, () -> x.box(0, 0, 0, 1, 1, 0));
+        due.fails("a box that is gone keeps its number", STATE, x, r -> r.box(0, 0, 0, 1, 1, 0));
     }
 
     private static void boxNamesTheFirstException() {
-        Readingorder x = new Readingorder();
+        Run x = new Run();
         for (int number = 0; number < 24; number++) {
             x.box(0, 0, 0, 1, 1, 0);
         }
-        due.fails("page ahead of the rest", INDEX, x, () -> x.box(5, -1, 0, 1, 1, 9));
-        due.fails("kind ahead of the number", ARGUMENT, x, () -> x.box(0, 0, 0, 1, 1, 7));
-        due.fails("place ahead of the number", ARGUMENT, x, () -> x.box(0, 60, 0, 1, 1, 0));
+        due.fails("page ahead of the rest", INDEX, x, r -> r.box(5, -1, 0, 1, 1, 9));
+        due.fails("kind ahead of the number", ARGUMENT, x, r -> r.box(0, 0, 0, 1, 1, 7));
+        due.fails("place ahead of the number", ARGUMENT, x, r -> r.box(0, 60, 0, 1, 1, 0));
     }
 
     private static void boxLetsApprovalsFall() {
-        Readingorder x = column();
+        Run x = column();
         x.box(2, 0, 0, 1, 1, 0);
         x.approve(0, 1);
         x.approve(1, 2);
@@ -120,7 +120,7 @@ public final class BoxesTest {
     }
 
     private static void moveMoves() {
-        Readingorder x = column();
+        Run x = column();
         due.is("move", 0, x.move(0, 40, 70));
         are("move", x, 0, 1, 40, 70, 20, 10, 0, -1, -1, 0);
         due.are("move", "1 2 0", Look.reading(x, 1));
@@ -130,21 +130,21 @@ public final class BoxesTest {
     }
 
     private static void moveRefuses() {
-        Readingorder x = column();
+        Run x = column();
         x.remove(1);
         x.approve(3, 1);
         for (int box : new int[] {-1, 1, 3, 24, MIN, MAX}) {
-            due.fails("box " + box, INDEX, x, () -> x.move(box, 0, 0));
-            due.fails("box ahead of place", INDEX, x, () -> x.move(box, -1, 0));
+            due.fails("box " + box, INDEX, x, r -> r.move(box, 0, 0));
+            due.fails("box ahead of place", INDEX, x, r -> r.move(box, -1, 0));
         }
         int[][] wrong = {{-1, 0}, {0, -1}, {41, 0}, {0, 71}, {MAX, 0}, {0, MAX}, {MIN, 0}, {0, MIN}};
         for (int[] w : wrong) {
-            due.fails("move(0, " + w[0] + ", " + w[1] + ")", ARGUMENT, x, () -> x.move(0, w[0], w[1]));
+            due.fails("move(0, " + w[0] + ", " + w[1] + ")", ARGUMENT, x, r -> r.move(0, w[0], w[1]));
         }
     }
 
     private static void moveTellsHowManyFall() {
-        Readingorder x = column();
+        Run x = column();
         x.box(2, 0, 0, 1, 1, 0);
         x.approve(0, 1);
         x.approve(1, 1);
@@ -161,7 +161,7 @@ public final class BoxesTest {
     }
 
     private static void resizeResizes() {
-        Readingorder x = column();
+        Run x = column();
         due.is("resize", 0, x.resize(2, 50, 40));
         are("resize", x, 2, 1, 10, 40, 50, 40, 0, -1, -1, 0);
         due.is("resize", 0, x.resize(2, 1, 1));
@@ -169,21 +169,21 @@ public final class BoxesTest {
     }
 
     private static void resizeRefuses() {
-        Readingorder x = column();
+        Run x = column();
         x.remove(1);
         x.approve(3, 1);
         for (int box : new int[] {-1, 1, 3, 24, MIN, MAX}) {
-            due.fails("box " + box, INDEX, x, () -> x.resize(box, 1, 1));
-            due.fails("box ahead of size", INDEX, x, () -> x.resize(box, 0, 0));
+            due.fails("box " + box, INDEX, x, r -> r.resize(box, 1, 1));
+            due.fails("box ahead of size", INDEX, x, r -> r.resize(box, 0, 0));
         }
         int[][] wrong = {{0, 1}, {1, 0}, {-1, 1}, {1, -1}, {51, 1}, {1, 41}, {MAX, 1}, {1, MAX}, {MIN, 1}, {1, MIN}};
         for (int[] w : wrong) {
-            due.fails("resize(2, " + w[0] + ", " + w[1] + ")", ARGUMENT, x, () -> x.resize(2, w[0], w[1]));
+            due.fails("resize(2, " + w[0] + ", " + w[1] + ")", ARGUMENT, x, r -> r.resize(2, w[0], w[1]));
         }
     }
 
     private static void resizeTellsHowManyFall() {
-        Readingorder x = new Readingorder();
+        Run x = new Run();
         x.box(0, 0, 0, 30, 40, 0);
         x.box(0, 30, 0, 30, 40, 0);
         x.box(0, 0, 40, 30, 40, 0);
@@ -195,12 +195,12 @@ public final class BoxesTest {
     }
 
     private static void removeRemoves() {
-        Readingorder x = column();
+        Run x = column();
         due.is("remove", 0, x.remove(1));
         are("gone, the others as they were", x, 1, 1, 10, 20, 20, 10, 0, -1, -1, 1);
         due.are("the rest", "0 2", Look.reading(x, 1));
         for (int box : new int[] {-1, 1, 3, 24, MIN, MAX}) {
-            due.fails("remove(" + box + ")", INDEX, x, () -> x.remove(box));
+            due.fails("remove(" + box + ")", INDEX, x, r -> r.remove(box));
         }
         due.is("remove", 0, x.remove(0));
         due.is("remove", 0, x.remove(2));
@@ -208,7 +208,7 @@ public final class BoxesTest {
     }
 
     private static void removeLoosensTies() {
-        Readingorder x = column();
+        Run x = column();
         x.tie(2, 1);
         x.tie(1, 0);
         due.are("a chain", "2 1 0", Look.reading(x, 1));
@@ -217,13 +217,13 @@ public final class BoxesTest {
         are("the one that led it", x, 2, 1, 10, 40, 20, 10, 0, -1, -1, 0);
         are("the one that it led", x, 0, 1, 10, 0, 20, 10, 0, -1, -1, 0);
         due.are("not tied to one another", "0 2", Look.reading(x, 1));
-        due.fails("untie", STATE, x, () -> x.untie(0));
+        due.fails("untie", STATE, x, r -> r.untie(0));
         due.is("tie anew", 0, x.tie(2, 0));
         due.are("tied anew", "2 0", Look.reading(x, 1));
     }
 
     private static void removeTellsHowManyFall() {
-        Readingorder x = column();
+        Run x = column();
         x.box(0, 0, 0, 1, 1, 0);
         x.approve(0, 1);
         x.approve(1, 1);
@@ -235,7 +235,7 @@ public final class BoxesTest {
     }
 
     private static void tieTies() {
-        Readingorder x = column();
+        Run x = column();
         due.is("tie", 0, x.tie(2, 0));
         due.is("what it leads", 0, x.about(2, 7));
         due.is("what it follows", 2, x.about(0, 6));
@@ -249,37 +249,37 @@ public final class BoxesTest {
     }
 
     private static void tieRefuses() {
-        Readingorder x = column();
+        Run x = column();
         x.box(2, 0, 0, 1, 1, 0);
         x.box(1, 10, 60, 10, 10, 0);
         x.box(1, 10, 70, 10, 10, 0);
         x.remove(5);
         x.tie(0, 1);
         for (int box : new int[] {-1, 5, 6, 24, MIN, MAX}) {
-            due.fails("the leading box " + box, INDEX, x, () -> x.tie(box, 2));
-            due.fails("the following box " + box, INDEX, x, () -> x.tie(2, box));
-            due.fails("both", INDEX, x, () -> x.tie(box, box));
+            due.fails("the leading box " + box, INDEX, x, r -> r.tie(box, 2));
+            due.fails("the following box " + box, INDEX, x, r -> r.tie(2, box));
+            due.fails("both", INDEX, x, r -> r.tie(box, box));
         }
-        due.fails("unlike pages", ARGUMENT, x, () -> x.tie(2, 3));
-        due.fails("unlike pages", ARGUMENT, x, () -> x.tie(3, 2));
-        due.fails("unlike pages ahead of what it leads", ARGUMENT, x, () -> x.tie(0, 3));
-        due.fails("the same box", ARGUMENT, x, () -> x.tie(2, 2));
-        due.fails("the same box ahead of what it leads", ARGUMENT, x, () -> x.tie(0, 0));
-        due.fails("the same tie once more", STATE, x, () -> x.tie(0, 1));
-        due.fails("it leads another one", STATE, x, () -> x.tie(0, 2));
-        due.fails("it follows another one", STATE, x, () -> x.tie(2, 1));
-        due.fails("a ring of two", STATE, x, () -> x.tie(1, 0));
+        due.fails("unlike pages", ARGUMENT, x, r -> r.tie(2, 3));
+        due.fails("unlike pages", ARGUMENT, x, r -> r.tie(3, 2));
+        due.fails("unlike pages ahead of what it leads", ARGUMENT, x, r -> r.tie(0, 3));
+        due.fails("the same box", ARGUMENT, x, r -> r.tie(2, 2));
+        due.fails("the same box ahead of what it leads", ARGUMENT, x, r -> r.tie(0, 0));
+        due.fails("the same tie once more", STATE, x, r -> r.tie(0, 1));
+        due.fails("it leads another one", STATE, x, r -> r.tie(0, 2));
+        due.fails("it follows another one", STATE, x, r -> r.tie(2, 1));
+        due.fails("a ring of two", STATE, x, r -> r.tie(1, 0));
         x.tie(1, 2);
-        due.fails("a ring of three", STATE, x, () -> x.tie(2, 0));
+        due.fails("a ring of three", STATE, x, r -> r.tie(2, 0));
         x.tie(2, 4);
-        due.fails("a ring of four", STATE, x, () -> x.tie(4, 0));
+        due.fails("a ring of four", STATE, x, r -> r.tie(4, 0));
         x.untie(2);
         due.is("two ends", 0, x.tie(4, 0));
         due.are("tied", "2 4 0 1", Look.reading(x, 1));
     }
 
     private static void tieTellsHowManyFall() {
-        Readingorder x = column();
+        Run x = column();
         x.approve(0, 1);
         x.approve(3, 1);
         due.is("as it was read anyhow", 0, x.tie(0, 1));
@@ -289,24 +289,24 @@ public final class BoxesTest {
     }
 
     private static void untieUnties() {
-        Readingorder x = column();
+        Run x = column();
         x.tie(2, 0);
         x.tie(0, 1);
-        due.fails("the one that leads follows none", STATE, x, () -> x.untie(2));
+        due.fails("the one that leads follows none", STATE, x, r -> r.untie(2));
         due.is("untie", 0, x.untie(0));
         due.is("it follows none", -1, x.about(0, 6));
         due.is("the other one leads none", -1, x.about(2, 7));
         due.is("what it leads follows it still", 0, x.about(1, 6));
         due.are("untied", "0 1 2", Look.reading(x, 1));
-        due.fails("untied already", STATE, x, () -> x.untie(0));
+        due.fails("untied already", STATE, x, r -> r.untie(0));
         x.remove(2);
         for (int box : new int[] {-1, 2, 3, 24, MIN, MAX}) {
-            due.fails("untie(" + box + ")", INDEX, x, () -> x.untie(box));
+            due.fails("untie(" + box + ")", INDEX, x, r -> r.untie(box));
         }
     }
 
     private static void untieTellsHowManyFall() {
-        Readingorder x = column();
+        Run x = column();
         x.tie(0, 1);
         x.tie(1, 2);
         x.approve(0, 1);

@@ -25,12 +25,18 @@ final class Due {
         check(got.equals(want), what + " answered " + got + ", due is " + want);
     }
 
-    /** The call must throw just this class, not one below it, and the object must answer as before. */
-    void fails(String what, Class<? extends RuntimeException> want, Readingorder x, Call call) {
-        String before = Look.at(x);
-        String got = outcome(call);
+    /**
+     * The call must throw just this class, not one below it, and the object must then answer as one on which it
+     * was not called: what it shows, and what later calls do.
+     */
+    void fails(String what, Class<? extends RuntimeException> want, Run x, Run.Call call) {
+        Run shown = x.again();
+        String got = outcome(() -> call.on(shown));
         check(got.equals(want.getName()), what + " gave " + got + ", due is " + want.getName());
-        check(Look.at(x).equals(before), what + " threw, but changed the object");
+        check(Look.at(shown).equals(Look.at(x.again())), what + " changed what the object shows");
+        Run changed = x.again();
+        outcome(() -> call.on(changed));
+        check(Look.after(changed).equals(Look.after(x.again())), what + " changed what later calls do");
     }
 
     /** The answer of a call as a text, or the name of the exception that it throws. */
@@ -50,8 +56,16 @@ final class Due {
         }
     }
 
-    void end() {
+    int wrong() {
+        return wrong;
+    }
+
+    void tell() {
         System.out.println(title + ": " + checked + " checks, " + wrong + " wrong");
+    }
+
+    void end() {
+        tell();
         if (wrong != 0) {
             System.exit(1);
         }

@@ -54,7 +54,7 @@ public final class FaceTest {
     }
 
     private static void aNewObjectHoldsNothing() {
-        Readingorder x = new Readingorder();
+        Run x = new Run();
         for (int page = 0; page < 5; page++) {
             due.is("boxes", 0, x.boxes(page));
             due.is("order", Readingorder.NONE, x.order(page, 0));
@@ -63,12 +63,12 @@ public final class FaceTest {
             due.is("faulty", 0, x.faulty(page));
             due.is("approvers", 0, x.approvers(page));
         }
-        due.fails("about", INDEX, x, () -> x.about(0, 0));
-        due.fails("stands", INDEX, x, () -> x.stands(0) ? 1 : 0);
-        Readingorder other = new Readingorder();
+        due.fails("about", INDEX, x, r -> r.about(0, 0));
+        due.fails("stands", INDEX, x, r -> r.stands(0) ? 1 : 0);
+        Run other = new Run();
         other.box(0, 0, 0, 1, 1, 0);
         other.approve(0, 0);
         due.is("one object's boxes are not another's", 0, x.boxes(0));
-        due.fails("one object's approvals are not another's", INDEX, x, () -> x.stands(0) ? 1 : 0);
+        due.fails("one object's approvals are not another's", INDEX, x, r -> r.stands(0) ? 1 : 0);
     }
 }

@@ -40,7 +40,7 @@ public final class OrderTest {
     }
 
     private static void orderIs(String what, String want, int[]... edges) {
-        Readingorder x = new Readingorder();
+        Run x = new Run();
         for (int[] e : edges) {
             x.box(3, e[0], e[1], e[2], e[3], TEXT);
         }
@@ -100,7 +100,7 @@ public final class OrderTest {
     }
 
     private static void tiedBoxesAreNotCut() {
-        Readingorder x = new Readingorder();
+        Run x = new Run();
         x.box(0, 0, 0, 20, 10, TEXT);
         x.box(0, 10, 5, 20, 10, TEXT);
         x.box(0, 25, 0, 20, 40, TEXT);
@@ -115,7 +115,7 @@ public final class OrderTest {
     }
 
     private static void manyCutsLieInOneAnother() {
-        Readingorder x = new Readingorder();
+        Run x = new Run();
         StringBuilder want = new StringBuilder();
         for (int n = 0; n < 24; n++) {
             x.box(0, 2 * n, 3 * (23 - n), 2, 3, TEXT);
@@ -123,7 +123,7 @@ public final class OrderTest {
         }
         due.are("24 cuts across", want.toString(), Look.reading(x, 0));
         due.are("24 cuts across, anew", want.toString(), Look.readingAnew(x, 0));
-        Readingorder y = new Readingorder();
+        Run y = new Run();
         // A frame in a frame: each box cuts off one side of what is left.
         int[] side = {0, 0, 60, 80};
         want.setLength(0);
@@ -136,7 +136,7 @@ public final class OrderTest {
         }
         due.are("a frame in a frame", want.toString(), Look.reading(y, 1));
         due.are("a frame in a frame, anew", want.toString(), Look.readingAnew(y, 1));
-        Readingorder z = new Readingorder();
+        Run z = new Run();
         for (int n = 0; n < 24; n++) {
             z.box(1, 2 * n, 23 - n, 2, 50, TEXT);
         }
@@ -145,7 +145,7 @@ public final class OrderTest {
     }
 
     private static void manyBoxesLieOneUponTheOther() {
-        Readingorder x = new Readingorder();
+        Run x = new Run();
         StringBuilder want = new StringBuilder();
         for (int n = 0; n < 24; n++) {
             x.box(4, 10, 10, 24 - n, 24 - n, TEXT);
@@ -154,7 +154,7 @@ public final class OrderTest {
         due.are("24 at the same place", want.toString(), Look.reading(x, 4));
         due.are("24 at the same place, anew", want.toString(), Look.readingAnew(x, 4));
         due.is("all of them have a fault", 24, x.faulty(4));
-        Readingorder y = new Readingorder();
+        Run y = new Run();
         want.setLength(0);
         // Each one reaches over the next one's edge, so that no cut ends before the last one.
         for (int n = 0; n < 24; n++) {
@@ -166,7 +166,7 @@ public final class OrderTest {
     }
 
     private static void orderAnswersPlaces() {
-        Readingorder x = new Readingorder();
+        Run x = new Run();
         x.box(4, 0, 50, 1, 1, TEXT);
         x.box(4, 0, 0, 1, 1, TEXT);
         x.box(0, 0, 0, 1, 1, TEXT);
@@ -182,17 +182,17 @@ public final class OrderTest {
         due.is("orderAnew", 2, x.orderAnew(0, 0));
         due.is("orderAnew of an empty page", Readingorder.NONE, x.orderAnew(2, 0));
         for (int wrong : new int[] {-1, MIN}) {
-            due.fails("place " + wrong, INDEX, x, () -> x.order(4, wrong));
-            due.fails("place " + wrong, INDEX, x, () -> x.orderAnew(4, wrong));
+            due.fails("place " + wrong, INDEX, x, r -> r.order(4, wrong));
+            due.fails("place " + wrong, INDEX, x, r -> r.orderAnew(4, wrong));
         }
         for (int wrong : new int[] {-1, 5, MIN, MAX}) {
-            due.fails("page " + wrong, INDEX, x, () -> x.order(wrong, 0));
-            due.fails("page " + wrong, INDEX, x, () -> x.orderAnew(wrong, 0));
+            due.fails("page " + wrong, INDEX, x, r -> r.order(wrong, 0));
+            due.fails("page " + wrong, INDEX, x, r -> r.orderAnew(wrong, 0));
         }
     }
 
     private static void placeOfAnswersPlaces() {
-        Readingorder x = new Readingorder();
+        Run x = new Run();
         x.box(4, 0, 50, 1, 1, TEXT);
         x.box(4, 0, 0, 1, 1, TEXT);
         x.box(0, 0, 0, 1, 1, TEXT);
@@ -202,12 +202,12 @@ public final class OrderTest {
         x.remove(1);
         due.is("placeOf", 0, x.placeOf(0));
         for (int wrong : new int[] {-1, 1, 3, 24, MIN, MAX}) {
-            due.fails("placeOf(" + wrong + ")", INDEX, x, () -> x.placeOf(wrong));
+            due.fails("placeOf(" + wrong + ")", INDEX, x, r -> r.placeOf(wrong));
         }
     }
 
     private static void boxesAreCounted() {
-        Readingorder x = new Readingorder();
+        Run x = new Run();
         x.box(4, 0, 50, 1, 1, TEXT);
         x.box(4, 0, 0, 1, 1, TEXT);
         x.box(0, 0, 0, 1, 1, TEXT);
@@ -219,12 +219,12 @@ public final class OrderTest {
         x.remove(0);
         due.is("boxes", 1, x.boxes(4));
         for (int wrong : new int[] {-1, 5, MIN, MAX}) {
-            due.fails("boxes(" + wrong + ")", INDEX, x, () -> x.boxes(wrong));
+            due.fails("boxes(" + wrong + ")", INDEX, x, r -> r.boxes(wrong));
         }
     }
 
     private static void aboutTells() {
-        Readingorder x = new Readingorder();
+        Run x = new Run();
         x.box(3, 1, 2, 4, 8, NOTE);
         x.box(3, 11, 12, 14, 18, HEAD_2);
         x.tie(1, 0);
@@ -239,17 +239,17 @@ public final class OrderTest {
             due.is("about(0, " + what + "), gone", gone[what], x.about(0, what));
         }
         for (int wrong : new int[] {-1, 9, MIN, MAX}) {
-            due.fails("about(1, " + wrong + ")", ARGUMENT, x, () -> x.about(1, wrong));
-            due.fails("about(0, " + wrong + "), gone", ARGUMENT, x, () -> x.about(0, wrong));
-            due.fails("box ahead of what", INDEX, x, () -> x.about(2, wrong));
+            due.fails("about(1, " + wrong + ")", ARGUMENT, x, r -> r.about(1, wrong));
+            due.fails("about(0, " + wrong + "), gone", ARGUMENT, x, r -> r.about(0, wrong));
+            due.fails("box ahead of what", INDEX, x, r -> r.about(2, wrong));
         }
         for (int wrong : new int[] {-1, 2, 24, MIN, MAX}) {
-            due.fails("about(" + wrong + ", 0)", INDEX, x, () -> x.about(wrong, 0));
+            due.fails("about(" + wrong + ", 0)", INDEX, x, r -> r.about(wrong, 0));
         }
     }
 
     private static void wayIsMeasured() {
-        Readingorder x = new Readingorder();
+        Run x = new Run();
         due.is("no box", 0, x.way(2));
         x.box(2, 0, 0, 5, 7, TEXT);
         due.is("one box", 0, x.way(2));
@@ -263,20 +263,20 @@ public final class OrderTest {
         x.box(1, 50, 70, 4, 4, TEXT);
         due.is("another page", 0, x.way(1));
         for (int wrong : new int[] {-1, 5, MIN, MAX}) {
-            due.fails("way(" + wrong + ")", INDEX, x, () -> x.way(wrong));
+            due.fails("way(" + wrong + ")", INDEX, x, r -> r.way(wrong));
         }
     }
 
     /** Boxes of these kinds, one right below the other. */
-    private static Readingorder pile(int... kinds) {
-        Readingorder x = new Readingorder();
+    private static Run pile(int... kinds) {
+        Run x = new Run();
         for (int n = 0; n < kinds.length; n++) {
             x.box(0, 0, 3 * n, 60, 3, kinds[n]);
         }
         return x;
     }
 
-    private static void faultsAre(String what, Readingorder x, int... want) {
+    private static void faultsAre(String what, Run x, int... want) {
         for (int box = 0; box < want.length; box++) {
             due.is(what + ": faults(" + box + ")", want[box], x.faults(box));
         }
@@ -289,7 +289,7 @@ public final class OrderTest {
         faultsAre("the first of level 2", pile(HEAD_2, HEAD_3), 1, 0);
         faultsAre("the first of level 3, behind a text", pile(TEXT, HEAD_3, HEAD_1), 0, 1, 0);
         faultsAre("the last one counts, not the least", pile(HEAD_1, HEAD_2, HEAD_1, HEAD_3), 0, 0, 0, 1);
-        Readingorder x = pile(HEAD_1);
+        Run x = pile(HEAD_1);
         x.box(1, 0, 0, 1, 1, HEAD_2);
         due.is("a head of another page is none ahead", 1, x.faults(1));
     }
@@ -300,7 +300,7 @@ public final class OrderTest {
         faultsAre("one ahead, one behind", pile(TEXT, ITEM, ITEM, TEXT, ITEM, TEXT), 0, 0, 0, 0, 2, 0);
         faultsAre("three", pile(ITEM, ITEM, ITEM), 0, 0, 0);
         faultsAre("not right behind", pile(ITEM, TEXT, ITEM), 2, 0, 2);
-        Readingorder x = pile(ITEM, TEXT, ITEM);
+        Run x = pile(ITEM, TEXT, ITEM);
         x.tie(0, 2);
         faultsAre("tied together", x, 0, 0, 0);
     }
@@ -312,7 +312,7 @@ public final class OrderTest {
     }
 
     private static void overlapIs(String what, int want, int left, int top, int width, int height) {
-        Readingorder x = new Readingorder();
+        Run x = new Run();
         x.box(0, 20, 20, 20, 20, TEXT);
         x.box(0, left, top, width, height, TEXT);
         due.is(what, want, x.faults(0) & 8);
@@ -335,7 +335,7 @@ public final class OrderTest {
         overlapIs("a cross", 8, 25, 0, 5, 80);
         overlapIs("the same place", 8, 20, 20, 20, 20);
         overlapIs("beside, at the same height", 0, 50, 25, 5, 5);
-        Readingorder x = new Readingorder();
+        Run x = new Run();
         x.box(0, 0, 0, 20, 20, TEXT);
         x.box(1, 0, 0, 20, 20, TEXT);
         due.is("on another page", 0, x.faults(0));
@@ -348,7 +348,7 @@ public final class OrderTest {
     }
 
     private static void gaps() {
-        Readingorder x = new Readingorder();
+        Run x = new Run();
         x.box(0, 0, 30, 10, 10, TEXT);
         due.is("the first one of its page", 0, x.faults(0));
         x.box(0, 0, 60, 10, 10, TEXT);
@@ -365,19 +365,19 @@ public final class OrderTest {
     }
 
     private static void faultsTogether() {
-        Readingorder x = new Readingorder();
+        Run x = new Run();
         x.box(0, 0, 0, 10, 10, HEAD_1);
         x.box(0, 0, 50, 10, 10, HEAD_3);
         x.box(0, 5, 55, 10, 10, NOTE);
         faultsAre("together", x, 0, 1 | 8 | 16, 4 | 8);
         x.remove(0);
         for (int wrong : new int[] {-1, 0, 3, 24, MIN, MAX}) {
-            due.fails("faults(" + wrong + ")", INDEX, x, () -> x.faults(wrong));
+            due.fails("faults(" + wrong + ")", INDEX, x, r -> r.faults(wrong));
         }
     }
 
     private static void faultyCounts() {
-        Readingorder x = pile(HEAD_2, ITEM, TEXT, NOTE, FIGURE, NOTE, HEAD_1);
+        Run x = pile(HEAD_2, ITEM, TEXT, NOTE, FIGURE, NOTE, HEAD_1);
         due.is("faulty", 3, x.faulty(0));
         x.box(1, 0, 0, 1, 1, ITEM);
         due.is("faulty of another page", 1, x.faulty(1));
@@ -385,12 +385,12 @@ public final class OrderTest {
         x.remove(1);
         due.is("faulty", 2, x.faulty(0));
         due.is("faulty of an empty page", 0, x.faulty(2));
-        Readingorder y = new Readingorder();
+        Run y = new Run();
         y.box(0, 0, 0, 20, 20, NOTE);
         y.box(0, 0, 10, 20, 20, NOTE);
         due.is("a box of many faults counts once", 2, y.faulty(0));
         for (int wrong : new int[] {-1, 5, MIN, MAX}) {
-            due.fails("faulty(" + wrong + ")", INDEX, x, () -> x.faulty(wrong));
+            due.fails("faulty(" + wrong + ")", INDEX, x, r -> r.faulty(wrong));
         }
     }
 }
