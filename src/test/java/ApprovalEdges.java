@@ -264,6 +264,13 @@ final class ApprovalEdges extends Edges {
         due.is("breaks(1, 0, 50)", 1, x.breaks(1, 0, 50));
         due.is("breaks(1, 1, 50)", 1, x.breaks(1, 1, 50));
         due.is("breaks(1, 0, 3)", 0, x.breaks(1, 0, 3));
+        Run beside = new Run();
+        beside.box(1, 20, 0, 20, 20, TEXT);
+        beside.box(1, 45, 5, 15, 20, TEXT);
+        beside.approve(0, 1);
+        due.is("to the left edge of the page", 1, beside.breaks(1, 0, 5));
+        due.is("just left of the other one", 1, beside.breaks(1, 5, 5));
+        due.is("1 in common with the other one", 0, beside.breaks(1, 6, 5));
         refuses(due, "breaks(1, ..)", ARGUMENT, x, (r, left) -> r.breaks(1, left, 50), -1, -20, -21, MIN, MIN + 1);
     }
 
@@ -272,6 +279,8 @@ final class ApprovalEdges extends Edges {
         due.is("breaks(2, 30, 0)", 1, x.breaks(2, 30, 0));
         due.is("breaks(0, 30, 0)", 0, x.breaks(0, 30, 0));
         due.is("breaks(0, 30, 1)", 0, x.breaks(0, 30, 1));
+        due.is("beside the second one, its top edge 1 further down", 1, x.breaks(0, 31, 4));
+        due.is("just above the second one", 0, x.breaks(0, 31, 1));
         refuses(due, "breaks(1, 30, ..)", ARGUMENT, x, (r, top) -> r.breaks(1, 30, top), -1, -2, -3, MIN, MIN + 1);
     }
 
