@@ -151,7 +151,7 @@ public final class Broken {
         check(left.isEmpty(), "without a test, " + where + ": " + left);
     }
 
-    /** The text under each heading of the terms and of the promises, but for how a call is written. */
+    /** The text under each heading that promises something, but for how a call is written under its promise. */
     private static TreeMap<String, String> sections() throws IOException {
         TreeMap<String, String> sections = new TreeMap<>();
         String part = "";
@@ -162,11 +162,13 @@ public final class Broken {
                 where = part.split(":")[0];
             } else if (line.startsWith("### ")) {
                 where = line.substring(4);
-            } else if (part.equals("Terms") || part.startsWith("Promise ")) {
+            } else if (part.equals("What it is") || part.equals("Terms") || part.startsWith("Promise ")) {
                 String words = line.replaceFirst("^`[A-Za-z ]+\\(.*?\\)[^`]*`: ", "");
                 if (!words.startsWith("Ahead of the calls")) {
                     sections.merge(where, words, (text, more) -> text + " " + more);
                 }
+            } else if (part.equals("The public face") && line.contains("public ")) {
+                sections.merge(where, line.trim(), (text, more) -> text + " " + more);
             }
         }
         return sections;

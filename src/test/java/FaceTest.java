@@ -1,18 +1,24 @@
-import java.lang.reflect.Constructor;
-import java.lang.reflect.Field;
-import java.lang.reflect.Method;
-import java.lang.reflect.Modifier;
-import java.util.TreeSet;
+import java.io.IOException;
+import java.nio.file.Files;
+import java.nio.file.Path;
+import java.util.ArrayList;
+import java.util.List;
+import java.util.regex.Matcher;
+import java.util.regex.Pattern;
 
-/** The public face, and promise 1. */
+/** The public face as the class has it written, beside the document, and promise 1. */
 public final class FaceTest {
 
     private static final Due due = new Due("FaceTest");
     private static final Class<IndexOutOfBoundsException> INDEX = IndexOutOfBoundsException.class;
+    private static final Path DOCUMENT = Path.of("../shared/DOC.md");
+    private static final Path MAIN = Path.of("src/main/java/Readingorder.java");
 
-    public static void main(String[] args) {
+    public static void main(String[] args) throws IOException {
         constants();
-        membersAreThoseOfTheDocument();
+        constantsMayStandInASwitch();
+        faceIsWrittenAsInTheDocument();
+        headingsStandAheadOfTheirCalls();
         aNewObjectHoldsNothing();
         due.end();
     }
@@ -28,29 +34,70 @@ public final class FaceTest {
         due.is("HEAD_3", 6, Readingorder.HEAD_3);
     }
 
-    private static void membersAreThoseOfTheDocument() {
-        int form = Readingorder.class.getModifiers();
-        due.is("the class is public and final", true, Modifier.isPublic(form) && Modifier.isFinal(form));
-        TreeSet<String> open = new TreeSet<>();
-        TreeSet<String> hidden = new TreeSet<>();
-        for (Method method : Readingorder.class.getDeclaredMethods()) {
-            (Modifier.isPrivate(method.getModifiers()) ? hidden : open).add(method.getName());
+    /** That this compiles shows that they are constants to the compiler, too. */
+    private static String nameOf(int constant) {
+        switch (constant) {
+            case Readingorder.NONE: return "NONE";
+            case Readingorder.TEXT: return "TEXT";
+            case Readingorder.ITEM: return "ITEM";
+            case Readingorder.FIGURE: return "FIGURE";
+            case Readingorder.NOTE: return "NOTE";
+            case Readingorder.HEAD_1: return "HEAD_1";
+            case Readingorder.HEAD_2: return "HEAD_2";
+            case Readingorder.HEAD_3: return "HEAD_3";
+            default: return "?";
         }
-        due.are("the methods that are not private", "[about, approve, approvers, box, boxes, breaks, faults, faulty,"
-                + " move, order, orderAnew, placeOf, remove, resize, stands, tie, untie, way]", open.toString());
-        hidden.retainAll(open);
-        due.are("private methods with the name of a public one", "[]", hidden.toString());
-        TreeSet<String> fields = new TreeSet<>();
-        for (Field field : Readingorder.class.getDeclaredFields()) {
-            if (!Modifier.isPrivate(field.getModifiers())) {
-                fields.add(field.getName());
+    }
+
+    private static void constantsMayStandInASwitch() {
+        String[] names = {"NONE", "TEXT", "ITEM", "FIGURE", "NOTE", "HEAD_1", "HEAD_2", "HEAD_3"};
+        for (int n = 0; n < names.length; n++) {
+            due.are("the constant that is " + (n - 1), names[n], nameOf(n - 1));
+        }
+    }
+
+    /** The names of the parameters, too, which only the text of the class tells. */
+    private static void faceIsWrittenAsInTheDocument() throws IOException {
+        String written = Files.readString(MAIN).replaceAll("\\s+", " ");
+        List<String> lines = faceOfTheDocument();
+        due.is("lines of the face", 22, lines.size());
+        for (String line : lines) {
+            String want = line.endsWith(");") || line.contains(" throws ") ? line.replaceFirst(";$", " {") : line;
+            due.check(written.contains(want), "the class has not: " + want);
+        }
+    }
+
+    private static List<String> faceOfTheDocument() throws IOException {
+        List<String> lines = new ArrayList<>();
+        boolean face = false;
+        for (String line : Files.readAllLines(DOCUMENT)) {
+            face = line.equals("```java") || face && !line.equals("```");
+            if (face && line.contains("public ")) {
+                lines.add(line.trim());
             }
         }
-        due.are("the fields that are not private",
-                "[FIGURE, HEAD_1, HEAD_2, HEAD_3, ITEM, NONE, NOTE, TEXT]", fields.toString());
-        Constructor<?>[] constructors = Readingorder.class.getDeclaredConstructors();
-        due.is("constructors", 1, constructors.length);
-        due.is("its parameters", 0, constructors[0].getParameterCount());
+        return lines;
+    }
+
+    private static void headingsStandAheadOfTheirCalls() throws IOException {
+        List<String> marks = new ArrayList<>();
+        Matcher told = Pattern.compile("Ahead of the calls (.*) the interface says: (---- .*)\\.")
+                .matcher(Files.readString(DOCUMENT));
+        while (told.find()) {
+            marks.add("// " + told.group(2) + "\n");
+            for (String call : told.group(1).split(", ")) {
+                marks.add(" " + call.replace("`", "") + "(");
+            }
+        }
+        due.is("headings and calls", 3 + 18, marks.size());
+        String text = Files.readString(MAIN);
+        int at = 0;
+        for (String mark : marks) {
+            Matcher found = Pattern.compile((mark.startsWith("//") ? "" : "public \\w+") + Pattern.quote(mark)).matcher(text);
+            boolean there = found.find(at);
+            due.check(there, "the class has not, in its place: " + mark.trim());
+            at = there ? found.end() : at;
+        }
     }
 
     private static void aNewObjectHoldsNothing() {
